@@ -500,8 +500,12 @@ public final class ArraySegments {
             System.arraycopy(other.least, 0, least, 0, VARIABLES);
             System.arraycopy(other.greatest, 0, greatest, 0, VARIABLES);
             System.arraycopy(other.sites, 0, sites, 0, REFERENCES);
-            System.arraycopy(other.maybeNull, 0, maybeNull, 0, REFERENCES);
-            System.arraycopy(other.known, 0, known, 0, ACTS);
+            for (int r = 0; r < REFERENCES; r++) {
+                maybeNull[r] = other.maybeNull[r];
+            }
+            for (int i = 0; i < ACTS; i++) {
+                known[i] = other.known[i];
+            }
             System.arraycopy(other.lanes, 0, lanes, 0, ACTS);
             System.arraycopy(other.shortest, 0, shortest, 0, ACTS);
             System.arraycopy(other.longest, 0, longest, 0, ACTS);

@@ -35,6 +35,7 @@ public final class PromisesTest {
         promise20();
         promise21();
         forgetting();
+        siteZero();
         Check.finish();
     }
 
@@ -564,5 +565,22 @@ public final class PromisesTest {
         Check.due("value behind clear", s.on.value(0), 0);
         Check.due("place behind clear", s.on.place(0, 0), 0);
         Check.due("same behind clear", s.on.same(0, 0), STATE);
+    }
+
+    /** ACT 0 can be a SITE, too: of an array without places, for the VARIABLES are 0. */
+    private static void siteZero() {
+        Script s = new Script();
+        Check.due("its number", s.make(0, Script.INT, 0), 0);
+        s.copyOf(1, 0);
+        s.copy(0, 0, 1, 0, 0);
+        s.copy(1, 0, 0, 0, 0);
+        Check.due("none of them throws", s.on.told(3), 0);
+        Check.due("nor on the machine", s.on.run(1), 0);
+        Check.due("length", s.on.length(0), 0);
+        Check.due("length of the clone", s.on.length(1), 0);
+        Check.due("not the same", s.on.same(0, 1), 0);
+        Check.due("not NULL", s.on.same(0, 2), 0);
+        Check.due("means it", s.on.means(0, 0), 1);
+        Check.due("holds", s.on.holds(1), 1);
     }
 }
