@@ -855,7 +855,6 @@ public final class ArraySegments {
             int may = nullBit(s);
             now.narrowReference(s, now.sites[s]);
             if (now.isReached) {
-                now.known[site] = false;
                 for (int j = 0; j < ACTS; j++) {
                     if (isIn(now.sites[s], j)) {
                         now.addArray(site, now, j);

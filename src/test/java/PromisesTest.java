@@ -132,18 +132,19 @@ public final class PromisesTest {
     }
 
     private static void promise3Full() {
-        Script s = new Script();
+        ArraySegments x = new ArraySegments();
         for (int i = 0; i < 40; i++) {
-            Check.due("3 forty go in", s.set(0, i), i);
+            Check.due("3 forty go in", x.act(0, 0, i, 0, 0, 0), i);
         }
-        Check.due("3 the next does not", s.set(0, 40), FULL);
-        Check.due("3 RANGE goes ahead of FULL", s.set(6, 0), RANGE);
-        Check.due("3 told", s.on.told(0), 40);
-        Check.due("3 nothing was changed", s.on.variable(0, 0), 39);
-        Check.due("3 drop makes no room", s.on.drop(0), 1);
-        Check.due("3 still full", s.set(0, 1), FULL);
-        Check.due("3 clear", s.on.clear(), 40);
-        Check.due("3 room again", s.set(0, 1), 0);
+        Check.due("3 the next does not", x.act(0, 0, 40, 0, 0, 0), FULL);
+        Check.due("3 RANGE goes ahead of FULL", x.act(0, 6, 0, 0, 0, 0), RANGE);
+        Check.due("3 told", x.told(0), 40);
+        Check.due("3 nothing was changed", x.variable(0, 0), 39);
+        Check.due("3 the last can be dropped", x.drop(39), 1);
+        Check.due("3 there is no other", x.drop(40), RANGE);
+        Check.due("3 drop makes no room", x.act(0, 0, 1, 0, 0, 0), FULL);
+        Check.due("3 clear", x.clear(), 40);
+        Check.due("3 room again", x.act(0, 0, 1, 0, 0, 0), 0);
     }
 
     private static void promise4() {
