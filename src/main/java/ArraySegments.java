@@ -527,7 +527,7 @@ public final class ArraySegments {
             }
             for (int r = 0; r < REFERENCES; r++) {
                 sites[r] |= other.sites[r];
-                maybeNull[r] |= other.maybeNull[r];
+                maybeNull[r] = maybeNull[r] || other.maybeNull[r];
             }
             for (int i = 0; i < ACTS; i++) {
                 if (other.known[i]) {
