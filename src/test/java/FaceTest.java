@@ -9,6 +9,7 @@ import java.util.Arrays;
 import java.util.List;
 import java.util.Random;
 import java.util.TreeSet;
+import java.util.regex.Matcher;
 import java.util.regex.Pattern;
 
 /** The public face, the rules of LANGUAGE.md that can be looked up, and wild calls that must not throw. */
@@ -18,6 +19,8 @@ public final class FaceTest {
         "throwsAt(int)", "ends()", "variable(int,int)", "reference(int)", "means(int,int)", "array(int,int)",
         "segment(int,int,int)", "status()", "run(long)", "where()", "value(int)", "place(int,int)", "length(int)",
         "same(int,int)", "holds(long)", "told(int)"};
+    private static final List<String> LIBRARY = List.of("Math.max", "Math.min", "Long.bitCount", "Integer.bitCount",
+        "System.arraycopy");
 
     private FaceTest() {
     }
@@ -26,6 +29,7 @@ public final class FaceTest {
         methods();
         fieldsAndConstructors();
         words();
+        sizes();
         for (int seed = 0; seed < 300; seed++) {
             wildCalls(seed);
         }
@@ -81,12 +85,63 @@ public final class FaceTest {
             "import", "package", "System.out", "Exact", "protected", "volatile", "native", "transient"}) {
             Check.isTrue("no " + word, !Pattern.compile("\\b" + word + "\\b").matcher(code).find());
         }
+        Matcher used = Pattern.compile("\\b(Math|Long|Integer|System|Arrays|String|StringBuilder|Character|Object)\\.(\\w+)")
+            .matcher(code);
+        while (used.find()) {
+            Check.isTrue("the library has " + used.group(), LIBRARY.contains(used.group()));
+        }
         Check.isTrue("no lambda", !code.contains("->"));
         Check.isTrue("no method reference", !code.contains("::"));
         for (String line : code.split("\n")) {
             boolean field = line.matches(" {8}final .* = new .*;");
             boolean constructor = line.matches(" {8}(program|flow|machine) = new .*;");
             Check.isTrue("rows are made in constructors: " + line, !line.contains("new ") || field || constructor);
+        }
+    }
+
+    /** Rules 2, 5 and 11: what classes and methods may have. */
+    private static void sizes() throws IOException {
+        Class<?>[] inside = ArraySegments.class.getDeclaredClasses();
+        Check.isTrue("twelve classes at most", inside.length <= 11);
+        classSizes(ArraySegments.class);
+        for (Class<?> one : inside) {
+            Check.isTrue(one.getName() + " is static", Modifier.isStatic(one.getModifiers()));
+            Check.isTrue(one.getName() + " is final, so that none overrides what its constructor calls",
+                Modifier.isFinal(one.getModifiers()));
+            Check.due(one.getName() + " has no class inside", one.getDeclaredClasses().length, 0);
+            classSizes(one);
+        }
+        methodLengths(Files.readAllLines(SOURCE));
+    }
+
+    private static void methodLengths(List<String> lines) {
+        Pattern head = Pattern.compile("( {4}| {8})(public|private|static|void|int|long|boolean)\\b[^=;]*\\) \\{");
+        int many = 0;
+        for (int at = 0; at < lines.size(); at++) {
+            Matcher begins = head.matcher(lines.get(at));
+            if (begins.matches()) {
+                int ends = at;
+                while (ends < lines.size() && !lines.get(ends).equals(begins.group(1) + "}")) {
+                    ends++;
+                }
+                Check.isTrue("sixty lines at most: " + lines.get(at), ends - at < 60);
+                many++;
+            }
+        }
+        Check.isTrue("methods were found", many > 60);
+    }
+
+    private static void classSizes(Class<?> one) {
+        int many = 0;
+        for (Field field : one.getDeclaredFields()) {
+            boolean isConstant = Modifier.isStatic(field.getModifiers());
+            Check.isTrue(field.getName() + " is an int constant",
+                !isConstant || Modifier.isFinal(field.getModifiers()) && field.getType() == int.class);
+            many += isConstant ? 0 : 1;
+        }
+        Check.isTrue(one.getName() + " has twenty fields at most", many <= 20);
+        for (Method method : one.getDeclaredMethods()) {
+            Check.isTrue(method.getName() + " has seven parameters at most", method.getParameterCount() <= 7);
         }
     }
 

@@ -291,9 +291,15 @@ public final class FactEdgesTest {
         s.makeOf(0, INT, 0, 5);
         s.makeOf(1, BYTE, 0, 1);
         s.either(2, 0, 1);
+        s.either(3, 0, 1);
         s.set(1, 4);
-        Check.due("4 is not below 1", throwsOf(s, s.read(3, 2, INT, 1)), CAST | INDEX);
-        Check.due("4 is below 5", throwsOf(s, s.read(3, 2, INT, 1)), 0);
+        Check.due("READ: 4 is not below 1", throwsOf(s, s.read(3, 2, INT, 1)), CAST | INDEX);
+        Check.due("READ: 4 is below 5", throwsOf(s, s.read(3, 2, INT, 1)), 0);
+        Check.due("FILL: 4 is above 1", throwsOf(s, s.fill(3, INT, 5, 1, 5)), CAST | INDEX);
+        Check.due("FILL again, for it narrows nothing", throwsOf(s, s.fill(3, INT, 5, 1, 5)), CAST | INDEX);
+        Check.due("WRITE: 4 is not below 1", throwsOf(s, s.write(3, INT, 1, 5)), CAST | INDEX);
+        Check.due("WRITE: 4 is below 5", throwsOf(s, s.write(3, INT, 1, 5)), 0);
+        Check.due("FILL: 4 is not above 5", throwsOf(s, s.fill(3, INT, 5, 1, 5)), 0);
     }
 
     private static int copyOf(int[] x, int[] y, int[] z) {

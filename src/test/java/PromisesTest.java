@@ -394,6 +394,38 @@ public final class PromisesTest {
         s.on.drop(3);
         Check.due("13 variable", s.on.variable(1, 0), 3);
         Check.due("13 status", s.on.status(), 0);
+        for (int which = 0; which < 18; which++) {
+            Check.due("13 a refusal", s.on.variable(0, 2), RANGE);
+            otherCall(s.on, which);
+            Check.due("13 status behind other call " + which, s.on.status(), RANGE);
+            s.on.variable(0, 0);
+            otherCall(s.on, which);
+            Check.due("13 status 0 behind other call " + which, s.on.status(), 0);
+        }
+    }
+
+    /** Every call but those that status() tells of, each with a number that is not as told where it has one. */
+    private static int otherCall(ArraySegments on, int which) {
+        switch (which) {
+            case 0: return on.act(15, 0, 0, 0, 0, 0);
+            case 1: return on.act(0, 0, 7, 0, 0, 0);
+            case 2: return on.drop(-1);
+            case 3: return on.reached(-1);
+            case 4: return on.throwsAt(-1);
+            case 5: return on.ends();
+            case 6: return on.reference(-1);
+            case 7: return on.means(-1, 0);
+            case 8: return on.array(-1, 0);
+            case 9: return on.array(0, 0);
+            case 10: return on.run(1L);
+            case 11: return on.where();
+            case 12: return on.value(-1) + on.place(-1, 0);
+            case 13: return on.length(-1);
+            case 14: return on.same(-1, 0);
+            case 15: return on.holds(1L);
+            case 16: return on.told(-1);
+            default: return on.clear();
+        }
     }
 
     private static void promise14() {
@@ -566,6 +598,10 @@ public final class PromisesTest {
         Check.due("value behind clear", s.on.value(0), 0);
         Check.due("place behind clear", s.on.place(0, 0), 0);
         Check.due("same behind clear", s.on.same(0, 0), STATE);
+        s.on.run(1);
+        Check.due("same behind a run of no ACTS", s.on.same(0, 0), 1);
+        Check.due("clear of none", s.on.clear(), 0);
+        Check.due("same behind clear of none", s.on.same(0, 0), STATE);
     }
 
     /** ACT 0 can be a SITE, too: of an array without places, for the VARIABLES are 0. */
